@@ -39,6 +39,17 @@ final class FiguresTest {
     Check.due("38: of three", 11.0 / 3.0, x.meanPrice());
     x.forget(0);
     Check.due("38: forgotten or not", 11.0 / 3.0, x.meanPrice());
+    GlanceMarket y = new GlanceMarket();
+    y.addPlace(1, '1');
+    y.addCampaign(0, 9999, 99999, 99, -1);
+    y.approve(0, true);
+    y.request(0, 0);
+    y.setPrice(0, 1);
+    y.request(0, 0);
+    Check.due("38: the first one counts", 5000.0, y.meanPrice());
+    y.show(0, 0);
+    y.show(1, 0);
+    Check.due("37: all", 1.0f, y.soldShare());
   }
 
   private static void isSound() {

@@ -268,6 +268,8 @@ final class MoneyTest {
     Check.due("35: nothing", 0L, x.paid());
     Check.due("36: nothing", 0L, x.paidAnew());
     x.addReseller(0, 3, 25);
+    x.addReseller(0, 0, 10);
+    x.addReseller(0, 5, 5);
     x.addPlace(1, '1');
     for (int i = 0; i < 4; i++) {
       clicked(x, 0);
@@ -279,6 +281,8 @@ final class MoneyTest {
     Check.due("35: all campaigns", 99L, x.paid());
     Check.due("36: all places and resellers", 99L, x.paidAnew());
     Check.due("36: of which fees", 20, x.fees(3));
+    Check.due("36: of which fees", 8, x.fees(0));
+    Check.due("36: of which fees", 4, x.fees(5));
     x.pass(24);
     x.sweep(0);
     Check.due("35: credits taken off", 19L, x.paid());

@@ -66,6 +66,8 @@ final class RequestsTest {
     Check.due("18: of two alike", 9, next.priceOf(next.request(0, 0)));
     next.approve(0, false);
     next.approve(2, false);
+    GlanceMarket two = market('2', 2, 5, 9);
+    Check.due("18: of two", 5, two.priceOf(two.request(0, 0)));
     Check.due("18: the floor if there is none", 2, next.priceOf(next.request(0, 0)));
     next.setFloor(0, 8);
     next.approve(2, true);
@@ -129,6 +131,13 @@ final class RequestsTest {
     x.setSegment(2, 3, false);
     x.setSegment(2, 4, true);
     Check.due("21: another segment", false, x.mayBid(1, 0, 2));
+    x.addCampaign(0, 5, 99999, 99, 0);
+    x.approve(2, true);
+    Check.due("21: has not the first one", false, x.mayBid(2, 0, 0));
+    x.setSegment(0, 0, true);
+    Check.due("21: has the first one", true, x.mayBid(2, 0, 0));
+    x.setConsent(0, 'l');
+    Check.due("21: the first id forbids", false, x.mayBid(2, 0, 0));
   }
 
   private static void mayBidByPlace() {

@@ -181,8 +181,28 @@ final class VisitorsTest {
     x.request(0, 1);
     Check.due("8: only the new one", 1, x.forget(1));
     Check.due("8: the other's one", 1, x.forget(3));
+    allSegmentsAreTaken();
     forgottenAreNotSwept();
     Check.due("8: isSound", true, x.isSound());
+  }
+
+  private static void allSegmentsAreTaken() {
+    GlanceMarket x = new GlanceMarket();
+    x.join(0, 19);
+    for (int segment = 0; segment < 8; segment++) {
+      x.setSegment(0, segment, true);
+      x.setSegment(19, segment, true);
+      x.setSegment(1, segment, true);
+    }
+    Check.due("8: no requests", 0, x.forget(19));
+    for (int segment = 0; segment < 8; segment++) {
+      Check.due("8: taken from the first id", false, x.setSegment(0, segment, false));
+      Check.due("8: taken from the last id", false, x.setSegment(19, segment, false));
+      Check.due("8: not from another", true, x.setSegment(1, segment, true));
+    }
+    Check.due("8: consent of the first id", 'n', x.consent(0));
+    Check.due("8: consent of the last id", 'n', x.consent(19));
+    Check.due("8: parted from the first id", 19, x.person(19));
   }
 
   private static void forgottenAreNotSwept() {
