@@ -48,6 +48,13 @@ final class Check {
     due(what, "throws.UnsupportedOperationException", outcome(call));
   }
 
+  /** A call that throws this exception and leaves the market as it was. */
+  static void refused(GlanceMarket x, String what, String exception, Call call) {
+    String before = Inside.of(x);
+    due(what, "throws." + exception, outcome(call));
+    due(what + " changed nothing", true, before.equals(Inside.of(x)));
+  }
+
   static void end() {
     if (wrong != 0) {
       System.out.println(wrong + " answers are not as due");

@@ -15,20 +15,8 @@ final class EventsTest {
     Check.end();
   }
 
-  /** A market with one place and one approved campaign, which this many requests of id 0 won. */
-  private static GlanceMarket won(int requests) {
-    GlanceMarket x = new GlanceMarket();
-    x.addPlace(1, '1');
-    x.addCampaign(0, 10, 99999, 99, -1);
-    x.approve(0, true);
-    for (int i = 0; i < requests; i++) {
-      x.request(0, 0);
-    }
-    return x;
-  }
-
   private static void show() {
-    GlanceMarket x = won(3);
+    GlanceMarket x = Markets.won(3);
     Check.due("22: at once", 0, x.show(0, 0));
     Check.due("22: charged", 'c', x.stateOf(0));
     Check.due("22: on its way", 1, x.show(1, 40));
@@ -51,7 +39,7 @@ final class EventsTest {
   }
 
   private static void click() {
-    GlanceMarket x = won(2);
+    GlanceMarket x = Markets.won(2);
     x.show(0, 0);
     Check.due("23: at once", 0, x.click(0, 0));
     Check.due("23: clicked", 'k', x.stateOf(0));
@@ -72,7 +60,7 @@ final class EventsTest {
   }
 
   private static void buy() {
-    GlanceMarket x = won(1);
+    GlanceMarket x = Markets.won(1);
     x.show(0, 0);
     x.click(0, 0);
     Check.due("24: number 0", 0, x.buy(0, 1, 0));
@@ -100,7 +88,7 @@ final class EventsTest {
   }
 
   private static void pass() {
-    GlanceMarket x = won(1);
+    GlanceMarket x = Markets.won(1);
     Check.argument("25: 0", () -> x.pass(0));
     Check.argument("25: 49", () -> x.pass(49));
     Check.argument("25: -1", () -> x.pass(-1));
@@ -124,7 +112,7 @@ final class EventsTest {
   }
 
   private static void orderOfEvents() {
-    GlanceMarket x = won(3);
+    GlanceMarket x = Markets.won(3);
     x.click(0, 3);
     x.pass(1);
     x.show(0, 2);
@@ -138,7 +126,7 @@ final class EventsTest {
     Check.due("25: told later comes later", 'k', x.stateOf(1));
     Check.due("25: an hour earlier comes earlier", 'c', x.stateOf(2));
     Check.due("25: two clicks without ground", 2, x.groundless());
-    GlanceMarket y = won(1);
+    GlanceMarket y = Markets.won(1);
     y.show(0, 1);
     y.pass(1);
     y.click(0, 0);
@@ -146,7 +134,7 @@ final class EventsTest {
   }
 
   private static void chargedInTheHourOfComing() {
-    GlanceMarket x = won(8);
+    GlanceMarket x = Markets.won(8);
     for (int i = 0; i < 4; i++) {
       x.show(i, 23);
       x.show(i + 4, 24);
@@ -161,7 +149,7 @@ final class EventsTest {
   }
 
   private static void sweep() {
-    GlanceMarket x = won(9);
+    GlanceMarket x = Markets.won(9);
     Check.argument("26: the first hour is not over", () -> x.sweep(0));
     Check.argument("26: below 0", () -> x.sweep(-1));
     for (int i = 0; i < 3; i++) {
@@ -185,7 +173,7 @@ final class EventsTest {
   }
 
   private static void sweepOfJoined() {
-    GlanceMarket x = won(4);
+    GlanceMarket x = Markets.won(4);
     x.request(0, 1);
     x.request(0, 2);
     for (int i = 0; i < 6; i++) {
@@ -203,14 +191,14 @@ final class EventsTest {
   }
 
   private static void sweepCountsPersonsAndHours() {
-    GlanceMarket x = won(3);
+    GlanceMarket x = Markets.won(3);
     x.request(0, 1);
     for (int i = 0; i < 4; i++) {
       x.show(i, 0);
     }
     x.pass(1);
     Check.due("26: four of two persons", 0, x.sweep(0));
-    GlanceMarket y = won(4);
+    GlanceMarket y = Markets.won(4);
     y.addCampaign(1, 20, 99999, 99, -1);
     y.approve(1, true);
     y.request(0, 0);
@@ -226,7 +214,7 @@ final class EventsTest {
   }
 
   private static void stateOf() {
-    GlanceMarket x = won(4);
+    GlanceMarket x = Markets.won(4);
     x.approve(0, false);
     int lost = x.request(0, 0);
     Check.due("27: nobody won", 'n', x.stateOf(lost));
@@ -249,7 +237,7 @@ final class EventsTest {
   }
 
   private static void groundless() {
-    GlanceMarket x = won(1);
+    GlanceMarket x = Markets.won(1);
     x.approve(0, false);
     int lost = x.request(0, 0);
     x.show(lost, 0);

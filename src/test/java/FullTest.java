@@ -1,26 +1,7 @@
 /** A market in which all that is numbered is full: every call still answers. */
 final class FullTest {
   public static void main(String[] args) {
-    GlanceMarket x = new GlanceMarket();
-    for (int place = 0; place < 5; place++) {
-      x.addPlace(1, '1');
-      for (int reseller = 0; reseller < 3; reseller++) {
-        x.addReseller(place, reseller + 3, 30);
-      }
-    }
-    for (int campaign = 0; campaign < 8; campaign++) {
-      x.addCampaign(7, 10, 99999, 99, 7);
-      x.approve(campaign, true);
-    }
-    x.setSegment(19, 7, true);
-    for (int request = 0; request < 60; request++) {
-      x.request(request % 5, 19);
-      x.show(request, 0);
-      x.click(request, 0);
-    }
-    for (int purchase = 0; purchase < 20; purchase++) {
-      x.buy(19, 9999, 0);
-    }
+    GlanceMarket x = Markets.full();
     numbersAreDue(x);
     thanksAreDue(x);
     x.pass(1);
@@ -32,6 +13,7 @@ final class FullTest {
     Check.due("8: all", 60, x.forget(19));
     Check.due("39: forgotten", true, x.isSound());
     manyEvents();
+    beyondTheLastCall();
     Check.end();
   }
 
@@ -68,5 +50,16 @@ final class FullTest {
     }
     Check.due("25: all come", 40, x.pass(40));
     Check.due("28: all without ground", 508, x.groundless());
+  }
+
+  /** What is answered behind the 512th call is free, but the machine may not throw there either. */
+  private static void beyondTheLastCall() {
+    GlanceMarket x = Markets.won(1);
+    for (int i = 0; i < 2000; i++) {
+      Check.due("LANGUAGE 7", true, Check.outcome(() -> x.show(0, 40)) instanceof Integer);
+    }
+    for (int i = 0; i < 3; i++) {
+      Check.due("LANGUAGE 7", true, Check.outcome(() -> x.pass(48)) instanceof Integer);
+    }
   }
 }

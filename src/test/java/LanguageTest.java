@@ -12,6 +12,7 @@ final class LanguageTest {
     "\\bpackage\\b", "\\bvar\\b", "\\bThread\\b", "\\bSystem\\.(?!arraycopy)", "Exact\\(",
     "\\bMath\\.(?!(abs|min|max|floorDiv|floorMod)\\b)", "\\bString\\.", "\\bObject\\b",
     "static\\s*\\{", "\\bequals\\b", "\\bhashCode\\b", "\\btoString\\b", "\\bprotected\\b",
+    "\"\\s*\\+", "\\+\\s*\"",
   };
   private static final Pattern THROW = Pattern.compile(
       "throw new (IllegalState|IllegalArgument|IndexOutOfBounds|Arithmetic|UnsupportedOperation"
@@ -34,7 +35,15 @@ final class LanguageTest {
     Check.due("throws of the known form", count(Pattern.compile("throw "), code),
         count(THROW, code));
     Check.due("few classes", true, count(Pattern.compile("\\bclass\\b"), code) <= 12);
+    methodsAreShort(source);
     Check.end();
+  }
+
+  /** Methods stand apart by empty lines: what stands between two is at most one of them. */
+  private static void methodsAreShort(String source) {
+    for (String part : source.split("\n\\s*\n")) {
+      Check.due("some sixty lines: " + part.lines().findFirst(), true, part.lines().count() <= 60);
+    }
   }
 
   private static int count(Pattern pattern, String code) {

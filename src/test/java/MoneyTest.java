@@ -26,21 +26,14 @@ final class MoneyTest {
     return x;
   }
 
-  private static int clicked(GlanceMarket x, int id) {
-    int request = x.request(0, id);
-    x.show(request, 0);
-    x.click(request, 0);
-    return request;
-  }
-
   private static void charged() {
     GlanceMarket x = market();
     for (int i = 0; i < 4; i++) {
-      clicked(x, 0);
+      Markets.clicked(x, 0);
     }
     x.pass(24);
     x.sweep(0);
-    clicked(x, 0);
+    Markets.clicked(x, 0);
     Check.due("29: credits are not taken off", 80, x.charged(0, 0));
     Check.due("29: of the day", 20, x.charged(0, 1));
     Check.due("29: a day to come", 0, x.charged(0, 2));
@@ -56,7 +49,7 @@ final class MoneyTest {
   private static void credit() {
     GlanceMarket x = market();
     for (int i = 0; i < 4; i++) {
-      clicked(x, 0);
+      Markets.clicked(x, 0);
     }
     Check.due("30: none", 0, x.credit(0));
     x.pass(1);
@@ -64,7 +57,7 @@ final class MoneyTest {
     Check.due("30: four", 80, x.credit(0));
     Check.due("30: of the campaign", 0, x.credit(1));
     for (int i = 0; i < 5; i++) {
-      clicked(x, 0);
+      Markets.clicked(x, 0);
     }
     x.pass(1);
     x.sweep(1);
@@ -80,7 +73,7 @@ final class MoneyTest {
     x.addReseller(0, 0, 7);
     x.addReseller(0, 5, 13);
     x.setPrice(0, 99);
-    clicked(x, 0);
+    Markets.clicked(x, 0);
     // 29.7, 6.93 and 12.87, each rounded down by itself
     Check.due("31: the rest", 99 - 29 - 6 - 12, x.revenue(0));
     Check.due("32: twice in the chain", 29 + 12, x.fees(5));
@@ -88,7 +81,7 @@ final class MoneyTest {
     Check.due("32: not in it", 0, x.fees(1));
     Check.due("31: another place", 0, x.revenue(1));
     for (int i = 0; i < 3; i++) {
-      clicked(x, 0);
+      Markets.clicked(x, 0);
     }
     x.pass(1);
     x.sweep(0);
@@ -117,16 +110,16 @@ final class MoneyTest {
     Check.due("31: a chain of one then", 190, x.revenue(0));
     Check.due("32: was there", 10, x.fees(1));
     Check.due("32: came later", 0, x.fees(2));
-    clicked(x, 0);
+    Markets.clicked(x, 0);
     Check.due("32: both", 20, x.fees(1));
     Check.due("32: both", 20, x.fees(2));
   }
 
   private static void thanksByModel() {
     GlanceMarket x = market();
-    int first = clicked(x, 0);
-    int middle = clicked(x, 0);
-    int last = clicked(x, 0);
+    int first = Markets.clicked(x, 0);
+    int middle = Markets.clicked(x, 0);
+    int last = Markets.clicked(x, 0);
     x.buy(0, 101, 0);
     thanksAre(x, 0, 'f', 101, 0, 0);
     thanksAre(x, 0, 'l', 0, 0, 101);
@@ -136,12 +129,12 @@ final class MoneyTest {
     x.buy(0, 3, 0);
     thanksAre(x, 2, 'e', 1, 1, 1);
     Check.due("33: numbers", 3, first + middle + last);
-    int behind = clicked(x, 0);
+    int behind = Markets.clicked(x, 0);
     Check.due("33: behind it in this hour", 101, x.thanks(0, behind, 'l'));
     Check.due("33: as it is when asked", 25, x.thanks(0, first, 'e'));
     Check.due("33: as it is when asked", 26, x.thanks(0, behind, 'e'));
     x.pass(1);
-    int later = clicked(x, 0);
+    int later = Markets.clicked(x, 0);
     Check.due("33: an hour later", 0, x.thanks(0, later, 'l'));
     Check.due("33: the latest is the latest by number", 101, x.thanks(0, behind, 'l'));
   }
@@ -182,8 +175,8 @@ final class MoneyTest {
 
   private static void thanksByPerson() {
     GlanceMarket x = market();
-    int one = clicked(x, 1);
-    int two = clicked(x, 2);
+    int one = Markets.clicked(x, 1);
+    int two = Markets.clicked(x, 2);
     x.buy(2, 10, 0);
     Check.due("33: another person", 0, x.thanks(0, one, 'f'));
     Check.due("33: its own", 10, x.thanks(0, two, 'f'));
@@ -208,8 +201,8 @@ final class MoneyTest {
     x.buy(0, 10, 0);
     Check.due("33: no click", 0, x.thanks(0, shown, 'f'));
     Check.due("33: a click that did not come", 0, x.thanks(0, onItsWay, 'f'));
-    clicked(x, 0);
-    clicked(x, 0);
+    Markets.clicked(x, 0);
+    Markets.clicked(x, 0);
     x.pass(1);
     Check.due("33: the click came", 10, x.thanks(0, onItsWay, 'f'));
     Check.due("33: four in an hour", 4, x.sweep(0));
@@ -219,7 +212,7 @@ final class MoneyTest {
 
   private static void thanksThrows() {
     GlanceMarket x = market();
-    int request = clicked(x, 0);
+    int request = Markets.clicked(x, 0);
     x.buy(0, 10, 1);
     Check.bounds("33: purchase 1 comes first", () -> x.thanks(1, request, 'x'));
     Check.bounds("33: purchase -1", () -> x.thanks(-1, request, 'f'));
@@ -241,9 +234,9 @@ final class MoneyTest {
 
   private static void thanked() {
     GlanceMarket x = market();
-    int first = clicked(x, 0);
+    int first = Markets.clicked(x, 0);
     x.approve(0, false);
-    int second = clicked(x, 0);
+    int second = Markets.clicked(x, 0);
     Check.due("34: who won", 0, x.winner(first));
     Check.due("34: who won", 1, x.winner(second));
     x.buy(0, 11, 0);
@@ -272,7 +265,7 @@ final class MoneyTest {
     x.addReseller(0, 5, 5);
     x.addPlace(1, '1');
     for (int i = 0; i < 4; i++) {
-      clicked(x, 0);
+      Markets.clicked(x, 0);
     }
     x.approve(0, false);
     x.request(1, 1);

@@ -2,7 +2,7 @@ import java.util.Random;
 
 /** Long runs of calls, right and wrong, on a market and on the model, which must answer alike. */
 final class RandomTest {
-  private static final int RUNS = 1500;
+  private static final int RUNS = 600;
   private static final int CALLS = 512;
   private static final int LOOKS = 64;
 
@@ -48,7 +48,11 @@ final class RandomTest {
 
   private void same(String call, Check.Call market, Check.Call model) {
     called++;
-    Check.due(run + ", call " + called + ": " + call, Check.outcome(model), Check.outcome(market));
+    Object due = Check.outcome(model);
+    Object answer = Check.outcome(market);
+    if (!due.equals(answer)) {
+      Check.due(run + ", call " + called + ": " + call, due, answer);
+    }
   }
 
   /** Mostly from 0 to bound - 1, sometimes one of the edges beyond, seldom far off. */

@@ -14,19 +14,8 @@ final class RequestsTest {
     Check.end();
   }
 
-  /** A market with one place of this auction and approved campaigns of these prices. */
-  private static GlanceMarket market(char auction, int floor, int... prices) {
-    GlanceMarket x = new GlanceMarket();
-    x.addPlace(floor, auction);
-    for (int i = 0; i < prices.length; i++) {
-      x.addCampaign(i, prices[i], 99999, 99, -1);
-      x.approve(i, true);
-    }
-    return x;
-  }
-
   private static void request() {
-    GlanceMarket x = market('1', 1, 5);
+    GlanceMarket x = Markets.with('1', 1, 5);
     Check.bounds("16: place 1", () -> x.request(1, 0));
     Check.bounds("16: place -1", () -> x.request(-1, 0));
     Check.bounds("16: id 20", () -> x.request(0, 20));
@@ -42,7 +31,7 @@ final class RequestsTest {
   }
 
   private static void winner() {
-    GlanceMarket x = market('1', 6, 5, 9, 7, 9);
+    GlanceMarket x = Markets.with('1', 6, 5, 9, 7, 9);
     Check.due("17: greatest price, lowest number", 1, x.winner(x.request(0, 0)));
     x.approve(1, false);
     Check.due("17: the next", 3, x.winner(x.request(0, 0)));
@@ -58,15 +47,15 @@ final class RequestsTest {
   }
 
   private static void priceOf() {
-    GlanceMarket own = market('1', 2, 5, 9, 7);
+    GlanceMarket own = Markets.with('1', 2, 5, 9, 7);
     Check.due("18: its own", 9, own.priceOf(own.request(0, 0)));
-    GlanceMarket next = market('2', 2, 5, 9, 7);
+    GlanceMarket next = Markets.with('2', 2, 5, 9, 7);
     Check.due("18: that of the next one", 7, next.priceOf(next.request(0, 0)));
     next.setPrice(0, 9);
     Check.due("18: of two alike", 9, next.priceOf(next.request(0, 0)));
     next.approve(0, false);
     next.approve(2, false);
-    GlanceMarket two = market('2', 2, 5, 9);
+    GlanceMarket two = Markets.with('2', 2, 5, 9);
     Check.due("18: of two", 5, two.priceOf(two.request(0, 0)));
     Check.due("18: the floor if there is none", 2, next.priceOf(next.request(0, 0)));
     next.setFloor(0, 8);
@@ -81,7 +70,7 @@ final class RequestsTest {
   }
 
   private static void bidsAndBidder() {
-    GlanceMarket x = market('2', 4, 5, 9, 3, 9, 5, 10, 9, 4);
+    GlanceMarket x = Markets.with('2', 4, 5, 9, 3, 9, 5, 10, 9, 4);
     int r = x.request(0, 0);
     Check.due("19: bids", 7, x.bids(r));
     int[] order = {5, 1, 3, 6, 0, 4, 7};
@@ -109,7 +98,7 @@ final class RequestsTest {
   }
 
   private static void mayBidByConsent() {
-    GlanceMarket x = market('1', 1, 5);
+    GlanceMarket x = Markets.with('1', 1, 5);
     x.addCampaign(0, 5, 99999, 99, 3);
     x.approve(1, true);
     Check.due("21: without segment", true, x.mayBid(0, 0, 1));
@@ -141,7 +130,7 @@ final class RequestsTest {
   }
 
   private static void mayBidByPlace() {
-    GlanceMarket x = market('1', 5, 5, 6);
+    GlanceMarket x = Markets.with('1', 5, 5, 6);
     x.addPlace(6, '1');
     Check.due("21: at the floor", true, x.mayBid(0, 0, 0));
     Check.due("21: below the floor", false, x.mayBid(0, 1, 0));
@@ -263,7 +252,7 @@ final class RequestsTest {
   }
 
   private static void mayBidThrows() {
-    GlanceMarket x = market('1', 1, 5);
+    GlanceMarket x = Markets.with('1', 1, 5);
     Check.bounds("21: campaign 1", () -> x.mayBid(1, 0, 0));
     Check.bounds("21: campaign -1", () -> x.mayBid(-1, 0, 0));
     Check.bounds("21: place 1", () -> x.mayBid(0, 1, 0));
