@@ -241,9 +241,19 @@ final class VisitorsEdgeTest {
       Markets.shown(x, 0);
     }
     x.forget(0);
+    x.setConsent(0, 'a');
     x.pass(1);
     Check.due("8: four forgotten ones are nobody's", 0, x.sweep(1));
     Check.due("8: the money stays", 80, x.revenue(0));
+    int gone = Markets.shown(x, 0);
+    x.forget(0);
+    x.setConsent(0, 'a');
+    for (int i = 0; i < 4; i++) {
+      Markets.shown(x, 0);
+    }
+    x.pass(1);
+    Check.due("8: four, without the forgotten one", 4, x.sweep(2));
+    Check.due("8: which stays charged", 'c', x.stateOf(gone));
   }
 
   private static void forgottenCountForNoThanks() {
