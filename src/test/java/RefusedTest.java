@@ -5,9 +5,9 @@ import java.util.function.Consumer;
 import java.util.function.Supplier;
 
 /**
- * Every call that can be refused, with every mixture of arguments at and beyond their edges, on
- * markets with nothing, with some and with all that they take: it throws what is documented first
- * and leaves the market as it was, or it throws nothing.
+ * Every call that can be refused, with every mixture of arguments at and beyond their edges (of
+ * addCampaign's five, one at a time), on markets with nothing, with some and with all that they
+ * take: it throws what is documented first and leaves the market as it was, or it throws nothing.
  */
 final class RefusedTest {
   private static final String CONSENTS = "aln";
